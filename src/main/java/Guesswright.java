@@ -30,6 +30,7 @@ public final class Guesswright {
     private static final int MOST_CHECKED_BY_TREE = 8;
     private static final int MOST_COVERS = 200;
     private static final int MOST_AT_ONCE = 3;
+    private static final int ABOVE_ALL_BURDENS = MOST_THINGS * MOST_THINGS + 1;
     private static final int KEY_HOMES = 4096;
     private static final int[] POWERS_OF_THREE = {1, 3, 9, 27, 81, 243, 729, 2187};
 
@@ -60,21 +61,21 @@ public final class Guesswright {
         if (!hasRepeats && places > colours) {
             throw new IllegalArgumentException("there is no code");
         }
-        return add(new Codes(rows[gameCount], places, colours, hasRepeats));
+        return add(new Codes(freeRows(), places, colours, hasRepeats));
     }
 
     public int numbers(int many) throws IllegalArgumentException, IllegalStateException {
         if (isOutside(many, 1, MOST_NUMBERS)) {
             throw new IllegalArgumentException("numbers are 1 to 64");
         }
-        return add(new Numbers(rows[gameCount], many));
+        return add(new Numbers(freeRows(), many));
     }
 
     public int coins(int coins, boolean mayBeAlike) throws IllegalArgumentException, IllegalStateException {
         if (isOutside(coins, 2, MOST_COINS)) {
             throw new IllegalArgumentException("coins are 2 to 7");
         }
-        return add(new Coins(rows[gameCount], coins, mayBeAlike));
+        return add(new Coins(freeRows(), coins, mayBeAlike));
     }
 
     public int fleets(int width, int height, int ships, boolean mayTouch)
@@ -82,7 +83,7 @@ public final class Guesswright {
         if (isOutside(width, 1, MOST_SIDE) || isOutside(height, 1, MOST_SIDE) || !areShips(ships)) {
             throw new IllegalArgumentException("sides and ships are 1 to 5, ships at most three");
         }
-        Fleets fleets = new Fleets(rows[gameCount], width, height, ships, mayTouch);
+        Fleets fleets = new Fleets(freeRows(), width, height, ships, mayTouch);
         if (fleets.thingCount == 0 || fleets.isTooMany) {
             throw new IllegalArgumentException("no way to lay the ships, or more than 2000");
         }
@@ -98,7 +99,7 @@ public final class Guesswright {
         if (choose(width * height, mines) > MOST_THINGS) {
             throw new IllegalArgumentException("more than 2000 sets of mines");
         }
-        return add(new Mines(rows[gameCount], width, height, mines, isRing));
+        return add(new Mines(freeRows(), width, height, mines, isRing));
     }
 
     public int vertices(int vertices) throws IllegalArgumentException {
@@ -126,7 +127,7 @@ public final class Guesswright {
     }
 
     public int graph() throws IllegalStateException {
-        return add(new Distances(rows[gameCount], neighbours, vertexCount));
+        return add(new Distances(freeRows(), neighbours, vertexCount));
     }
 
     public int clear() {
@@ -223,7 +224,7 @@ public final class Guesswright {
             throw new IllegalArgumentException("seeds are 0 to 99999");
         }
         int drawn = (int) ((seed * 1103515245L + 12345L) % 2147483648L / 65536L);
-        return found.rows.rest[drawn % found.restCount];
+        return found.rows.rest[drawn % found.restDivisor()];
     }
 
     // ---- questions weighed
@@ -387,14 +388,14 @@ public final class Guesswright {
 
     public float leftShare(int game) throws IndexOutOfBoundsException {
         Game found = gameAt(game);
-        return (float) found.restCount / (float) found.thingCount;
+        return (float) found.restCount / (float) Math.max(1, found.thingCount);
     }
 
     public double meanLeft(int game, int question) throws IndexOutOfBoundsException, IllegalArgumentException {
         Game found = gameAt(game);
         int index = indexIn(found, question);
         weigher.weighParts(found, found.rows.rest, found.restCount, index);
-        return (double) weigher.squares / (double) found.restCount;
+        return (double) weigher.squares / (double) found.restDivisor();
     }
 
     public boolean isTrue() {
@@ -433,6 +434,10 @@ public final class Guesswright {
             ways = ways * (many - i) / (i + 1);
         }
         return ways;
+    }
+
+    private Rows freeRows() {
+        return rows[Math.min(gameCount, MOST_GAMES)];
     }
 
     private int add(Game game) {
@@ -697,6 +702,11 @@ public final class Guesswright {
             }
         }
 
+        /** As answers that leave nothing are refused, this is how many things are left. */
+        final int restDivisor() {
+            return Math.max(1, restCount);
+        }
+
         final int liesAnew(int thing) {
             int lies = 0;
             for (int i = 0; i < takenCount; i++) {
@@ -933,6 +943,9 @@ public final class Guesswright {
         }
 
         private void addPlace(int ship, int cell, int step) {
+            if (placeCounts[ship] >= MOST_SHIP_PLACES) {
+                return;
+            }
             int cells = 0;
             for (int i = 0; i < sizes[ship]; i++) {
                 cells |= 1 << cell + i * step;
@@ -950,11 +963,15 @@ public final class Guesswright {
             }
             boolean isLikeAhead = ship > 0 && sizes[ship] == sizes[ship - 1];
             for (int place = isLikeAhead ? placeAhead + 1 : 0; place < placeCounts[ship] && !isTooMany; place++) {
-                int own = rows.shipPlaces[ship * MOST_SHIP_PLACES + place];
-                if ((own & barred) == 0) {
-                    long ownSign = ship < 2 ? (long) own << ship * MOST_CELLS : 0;
-                    lay(ship + 1, place, cells | own, barred | barredBy(own), sign | ownSign);
-                }
+                layAt(ship, place, cells, barred, sign);
+            }
+        }
+
+        private void layAt(int ship, int place, int cells, int barred, long sign) {
+            int own = rows.shipPlaces[ship * MOST_SHIP_PLACES + place];
+            if ((own & barred) == 0) {
+                long ownSign = ship < 2 ? (long) own << ship * MOST_CELLS : 0;
+                lay(ship + 1, place, cells | own, barred | barredBy(own), sign | ownSign);
             }
         }
 
@@ -1065,13 +1082,16 @@ public final class Guesswright {
         int parts = 0;
 
         void weighParts(Game game, int[] things, int count, int index) {
-            answerBound = game.answerBound();
+            answerBound = Math.min(game.answerBound(), MOST_ANSWERS);
             Arrays.fill(sizes, 0, answerBound, 0);
             worst = 0;
             squares = 0;
             parts = 0;
             for (int i = 0; i < count; i++) {
                 int answer = game.answerOf(things[i], index);
+                if (isOutside(answer, 0, answerBound - 1)) {
+                    continue;
+                }
                 int size = sizes[answer] + 1;
                 sizes[answer] = size;
                 squares += 2 * size - 1;
@@ -1109,7 +1129,7 @@ public final class Guesswright {
         int bestIndex(Game game, int[] things, int count, char what) {
             int itself = game.answerOfItself();
             int best = 0;
-            int least = Integer.MAX_VALUE;
+            int least = ABOVE_ALL_BURDENS;
             boolean isBestThing = false;
             for (int index = 0; index < game.questionCount; index++) {
                 if (count == game.thingCount && !game.isFirstOfItsSort(index)) {
@@ -1218,12 +1238,15 @@ public final class Guesswright {
 
         /** Questions that split things in the same way are one, as the search asks each again and again. */
         private void addSplit(Game game, int index) {
-            Arrays.fill(labels, 0, game.answerBound(), -1);
+            Arrays.fill(labels, -1);
             int from = splitCount * MOST_FOR_DEPTH;
             int count = 0;
             long key = 0;
             for (int i = 0; i < thingCount; i++) {
                 int answer = game.answerOf(game.rows.rest[i], index);
+                if (isOutside(answer, 0, MOST_ANSWERS - 1)) {
+                    continue;
+                }
                 if (labels[answer] < 0) {
                     labels[answer] = count;
                     parts[from + count] = 0;
@@ -1491,11 +1514,15 @@ public final class Guesswright {
             long high = low != 0 ? 0 : lackingHigh & -lackingHigh;
             for (int i = 0; i < count; i++) {
                 boolean doesNext = (lows[i] & low | highs[i] & high) != 0;
-                if (doesNext && canCover(lackingLow & ~lows[i], lackingHigh & ~highs[i], many - 1)) {
+                if (doesNext && canCoverWith(i, lackingLow, lackingHigh, many - 1)) {
                     return true;
                 }
             }
             return false;
+        }
+
+        private boolean canCoverWith(int index, long lackingLow, long lackingHigh, int many) {
+            return canCover(lackingLow & ~lows[index], lackingHigh & ~highs[index], many);
         }
     }
 }

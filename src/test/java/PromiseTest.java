@@ -60,6 +60,7 @@ public final class PromiseTest {
     private static void treesSetsProofs() {
         depth();
         depthOfGraphs();
+        depthFarFromEven();
         leastSum();
         atOnce();
         proof();
@@ -235,8 +236,11 @@ public final class PromiseTest {
         IT.refuses("5: too long", Checks.ARGUMENT, house, () -> house.fleets(2, 2, 3, true));
         IT.refuses("5: no room apart", Checks.ARGUMENT, house, () -> house.fleets(2, 2, 11, false));
         IT.refuses("5: 2300 ways", Checks.ARGUMENT, house, () -> house.fleets(5, 5, 111, true));
+        IT.refuses("5: 2035 ways", Checks.ARGUMENT, house, () -> house.fleets(3, 5, 122, true));
         IT.is("5: 1140 ways", 3, () -> house.fleets(5, 4, 111, true));
         IT.is("5: their number", 1140, () -> house.things(3));
+        IT.is("5: as near to 2000 as it gets", 4, () -> house.fleets(5, 5, 144, true));
+        IT.is("5: that is", 1972, () -> house.things(4));
         Guesswright full = full();
         IT.refuses("5: full", Checks.STATE, full, () -> full.fleets(2, 2, 2, true));
         IT.refuses("5: full, but out of range", Checks.ARGUMENT, full, () -> full.fleets(2, 2, 6, true));
@@ -894,6 +898,24 @@ public final class PromiseTest {
         IT.is("27: seven pairs", 7, () -> house.depth(2));
     }
 
+    private static void depthFarFromEven() {
+        Guesswright fleet = ofFleets(4, 4, 13, false);
+        fleet.take(0, 9, 3);
+        IT.is("27: 14 fleets are left", 14, () -> fleet.take(0, 0, 0));
+        IT.is("27: of these", 5, () -> fleet.depth(0));
+        fleet.take(0, 14, 0);
+        IT.is("27: what told nothing changes nothing", 5, () -> fleet.depth(0));
+        Guesswright house = new Guesswright();
+        house.vertices(13);
+        int[] edges = {601, 907, 204, 1008, 805, 507, 300, 510, 809, 102, 5, 103, 1207, 407, 409, 603, 703, 201, 900,
+            1208, 1106, 807};
+        for (int edge : edges) {
+            house.edge(edge / 100, edge % 100);
+        }
+        house.graph();
+        IT.is("27: a graph of 13", 2, () -> house.depth(0));
+    }
+
     // ---- promise 28
 
     private static void leastSum() {
@@ -931,6 +953,8 @@ public final class PromiseTest {
         IT.is("29: two questions", 2, () -> ofNumbers(12).atOnce(0));
         IT.is("29: three balances for 12", 3, () -> ofCoins(6, false).atOnce(0));
         IT.is("29: three lone vertices of four", 3, () -> ofLoneVertices(4).atOnce(0));
+        IT.is("29: a path, and the last pair alone", 2, () -> ofPathBesideTwo(10, 11).atOnce(0));
+        IT.is("29: a path, and the last pair but one", 2, () -> ofPathBesideTwo(9, 11).atOnce(0));
         Guesswright five = ofLoneVertices(5);
         IT.refuses("29: 3 are not enough", Checks.MISSING, five, () -> five.atOnce(0));
         five.setLies(0, 3);
@@ -947,6 +971,21 @@ public final class PromiseTest {
         for (int bad : new int[] {LOW, -1, 1, HIGH}) {
             IT.refuses("29: game " + bad, Checks.INDEX, alike, () -> alike.atOnce(bad));
         }
+    }
+
+    /** A game of 12 vertices: two are alone, the others are a path by rising numbers. */
+    private static Guesswright ofPathBesideTwo(int one, int other) {
+        Guesswright house = new Guesswright();
+        house.vertices(12);
+        int last = 0;
+        for (int vertex = 1; vertex < 12; vertex++) {
+            if (vertex != one && vertex != other) {
+                house.edge(last, vertex);
+                last = vertex;
+            }
+        }
+        house.graph();
+        return house;
     }
 
     // ---- promise 30
