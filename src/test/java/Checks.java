@@ -8,6 +8,16 @@ final class Checks {
 
     private int passed = 0;
     private int failed = 0;
+    private String heading = "";
+
+    /** What follows is told under this heading, if it fails. */
+    void under(String words) {
+        heading = words.isEmpty() ? "" : words + ": ";
+    }
+
+    int count() {
+        return passed + failed;
+    }
 
     void is(String what, Object due, Call call) {
         Object got;
@@ -41,7 +51,7 @@ final class Checks {
             passed++;
         } else {
             failed++;
-            System.out.println("FAILED: " + what + ", but got " + got);
+            System.out.println("FAILED: " + heading + what + ", but got " + got);
         }
     }
 
@@ -57,7 +67,7 @@ final class Checks {
         int games = gamesOf(house);
         for (int game = 0; game < games; game++) {
             state.append(house.things(game)).append(' ').append(house.questions(game)).append(' ');
-            state.append(house.weight(game, 3)).append(':');
+            state.append(house.weight(game, 3)).append(' ').append(liesSet(house, game)).append(':');
             for (int index = 0; index < house.left(game); index++) {
                 state.append(house.leftAt(game, index)).append(',');
             }
@@ -68,6 +78,17 @@ final class Checks {
         }
         appendGraph(house, state);
         return state.toString();
+    }
+
+    /** Lies are set and set back, which is refused if an answer was taken. */
+    private static String liesSet(Guesswright house, int game) {
+        try {
+            int before = house.setLies(game, 0);
+            house.setLies(game, before);
+            return before + " lies";
+        } catch (UnsupportedOperationException taken) {
+            return "taken";
+        }
     }
 
     static int gamesOf(Guesswright house) {

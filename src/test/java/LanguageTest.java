@@ -70,7 +70,8 @@ public final class LanguageTest {
     private static void barred(String code) {
         String[] words = {"->", "::", "\\btry\\b", "\\bcatch\\b", "\\bfinally\\b", "\\bsynchronized\\b", "\\bassert\\b",
             "\\bvar\\b", "\\brecord\\b", "\\bstrictfp\\b", "\\bnative\\b", "\\bvolatile\\b", "\\btransient\\b",
-            "\"\" *\\+", "\\+ *\"\"", "\\w+Exact\\b", "static \\{", "\\bextends \\w*Exception\\b", "\\bjava\\.[a-z]+\\.[a-z]+\\."};
+            "\"\" *\\+", "\\+ *\"\"", "\\w+Exact\\b", "static \\{", "\\bextends \\w*Exception\\b",
+            "\\bjava\\.[a-z]+\\.[a-z]+\\."};
         for (String word : words) {
             CHECKS.is("uses of " + word, "[]", () -> found(code, word).toString());
         }
@@ -81,7 +82,8 @@ public final class LanguageTest {
         used.removeAll(Set.of("Integer.bitCount(", "Long.bitCount(", "Math.min(", "Math.max(", "Math.floorMod(",
                 "Arrays.fill(", "System.arraycopy("));
         CHECKS.is("other uses of the library", "[]", used::toString);
-        Set<String> types = found(code, "\\b(Object|Runnable|Map|Set|HashMap|HashSet|Optional|Random|Scanner|Thread)\\b");
+        Set<String> types =
+                found(code, "\\b(Object|Runnable|Map|Set|HashMap|HashSet|Optional|Random|Scanner|Thread)\\b");
         CHECKS.is("other types", "[]", types::toString);
     }
 

@@ -81,54 +81,6 @@ public final class PromiseTest {
         isTrue();
     }
 
-    /** A house with eight games, the last of them of numbers to 8. */
-    private static Guesswright full() {
-        Guesswright house = new Guesswright();
-        for (int game = 1; game <= 8; game++) {
-            house.numbers(game);
-        }
-        return house;
-    }
-
-    /** A house with one game of numbers. */
-    private static Guesswright ofNumbers(int many) {
-        Guesswright house = new Guesswright();
-        house.numbers(many);
-        return house;
-    }
-
-    private static Guesswright ofCodes(int places, int colours, boolean hasRepeats) {
-        Guesswright house = new Guesswright();
-        house.codes(places, colours, hasRepeats);
-        return house;
-    }
-
-    /** A game of a graph without edges, in which each question tells one thing from the others. */
-    private static Guesswright ofLoneVertices(int vertices) {
-        Guesswright house = new Guesswright();
-        house.vertices(vertices);
-        house.graph();
-        return house;
-    }
-
-    private static Guesswright ofMines(int width, int height, int mines, boolean isRing) {
-        Guesswright house = new Guesswright();
-        house.mines(width, height, mines, isRing);
-        return house;
-    }
-
-    private static Guesswright ofFleets(int width, int height, int ships, boolean mayTouch) {
-        Guesswright house = new Guesswright();
-        house.fleets(width, height, ships, mayTouch);
-        return house;
-    }
-
-    private static Guesswright ofCoins(int coins, boolean mayBeAlike) {
-        Guesswright house = new Guesswright();
-        house.coins(coins, mayBeAlike);
-        return house;
-    }
-
     // ---- promise 1
 
     private static void newObject() {
@@ -161,14 +113,14 @@ public final class PromiseTest {
         IT.refuses("2: no code", Checks.ARGUMENT, house, () -> house.codes(4, 3, false));
         IT.is("2: as many colours as places", 3, () -> house.codes(4, 4, false));
         IT.is("2: 24 orders", 24, () -> house.things(3));
-        Guesswright full = full();
+        Guesswright full = Houses.full();
         IT.refuses("2: full", Checks.STATE, full, () -> full.codes(2, 2, true));
         IT.refuses("2: full, but out of range", Checks.ARGUMENT, full, () -> full.codes(5, 2, true));
         IT.refuses("2: full, but no code", Checks.ARGUMENT, full, () -> full.codes(3, 2, false));
     }
 
     private static void codeOrder() {
-        Guesswright house = ofCodes(2, 3, false);
+        Guesswright house = Houses.ofCodes(2, 3, false);
         int[] due = {1, 2, 3, 5, 6, 7};
         for (int thing = 0; thing < due.length; thing++) {
             int at = thing;
@@ -193,7 +145,7 @@ public final class PromiseTest {
         for (int bad : new int[] {LOW, -1, 0, 65, HIGH}) {
             IT.refuses("3: numbers " + bad, Checks.ARGUMENT, house, () -> house.numbers(bad));
         }
-        Guesswright full = full();
+        Guesswright full = Houses.full();
         IT.refuses("3: full", Checks.STATE, full, () -> full.numbers(3));
         IT.refuses("3: full, but out of range", Checks.ARGUMENT, full, () -> full.numbers(65));
     }
@@ -211,7 +163,7 @@ public final class PromiseTest {
         for (int bad : new int[] {LOW, 0, 1, 8, HIGH}) {
             IT.refuses("4: coins " + bad, Checks.ARGUMENT, house, () -> house.coins(bad, true));
         }
-        Guesswright full = full();
+        Guesswright full = Houses.full();
         IT.refuses("4: full", Checks.STATE, full, () -> full.coins(3, false));
         IT.refuses("4: full, but out of range", Checks.ARGUMENT, full, () -> full.coins(8, false));
     }
@@ -241,7 +193,7 @@ public final class PromiseTest {
         IT.is("5: their number", 1140, () -> house.things(3));
         IT.is("5: as near to 2000 as it gets", 4, () -> house.fleets(5, 5, 144, true));
         IT.is("5: that is", 1972, () -> house.things(4));
-        Guesswright full = full();
+        Guesswright full = Houses.full();
         IT.refuses("5: full", Checks.STATE, full, () -> full.fleets(2, 2, 2, true));
         IT.refuses("5: full, but out of range", Checks.ARGUMENT, full, () -> full.fleets(2, 2, 6, true));
         IT.refuses("5: full, but no way", Checks.ARGUMENT, full, () -> full.fleets(2, 2, 3, true));
@@ -249,7 +201,7 @@ public final class PromiseTest {
     }
 
     private static void fleetOrder() {
-        Guesswright house = ofFleets(2, 2, 2, true);
+        Guesswright house = Houses.ofFleets(2, 2, 2, true);
         int[] due = {3, 5, 10, 12};
         for (int thing = 0; thing < due.length; thing++) {
             int at = thing;
@@ -284,7 +236,7 @@ public final class PromiseTest {
         IT.is("6: their number", 1820, () -> house.things(3));
         IT.is("6: the last one", 0xF000, () -> house.told(3, 1819));
         IT.refuses("6: 2300 sets", Checks.ARGUMENT, house, () -> house.mines(5, 5, 3, false));
-        IT.refuses("6: 2002 sets", Checks.ARGUMENT, house, () -> house.mines(5, 3, 7, false));
+        IT.refuses("6: 6435 sets", Checks.ARGUMENT, house, () -> house.mines(5, 3, 7, false));
         for (int bad : new int[] {LOW, -1, 0, 6, HIGH}) {
             IT.refuses("6: width " + bad, Checks.ARGUMENT, house, () -> house.mines(bad, 1, 1, false));
             IT.refuses("6: height " + bad, Checks.ARGUMENT, house, () -> house.mines(1, bad, 1, false));
@@ -292,14 +244,14 @@ public final class PromiseTest {
         for (int bad : new int[] {LOW, -1, 7, HIGH}) {
             IT.refuses("6: mines " + bad, Checks.ARGUMENT, house, () -> house.mines(2, 3, bad, false));
         }
-        Guesswright full = full();
+        Guesswright full = Houses.full();
         IT.refuses("6: full", Checks.STATE, full, () -> full.mines(2, 2, 2, true));
         IT.refuses("6: full, but out of range", Checks.ARGUMENT, full, () -> full.mines(2, 2, 5, true));
         IT.refuses("6: full, but too many", Checks.ARGUMENT, full, () -> full.mines(5, 5, 12, true));
     }
 
     private static void minesOnRings() {
-        Guesswright house = ofMines(4, 4, 1, true);
+        Guesswright house = Houses.ofMines(4, 4, 1, true);
         IT.is("6: across both edges", 1, () -> house.answer(0, 15, 0));
         IT.is("6: across one edge", 1, () -> house.answer(0, 3, 0));
         IT.is("6: two away", 0, () -> house.answer(0, 2, 0));
@@ -373,14 +325,14 @@ public final class PromiseTest {
         }
         path.graph();
         IT.is("9: the longest way", 19, () -> path.answer(0, 0, 19));
-        Guesswright full = full();
+        Guesswright full = Houses.full();
         IT.refuses("9: full", Checks.STATE, full, full::graph);
     }
 
     // ---- promise 10
 
     private static void clear() {
-        Guesswright house = full();
+        Guesswright house = Houses.full();
         house.vertices(2);
         house.edge(0, 1);
         house.setLies(7, 3);
@@ -401,7 +353,7 @@ public final class PromiseTest {
     // ---- promise 11
 
     private static void setLies() {
-        Guesswright house = ofNumbers(4);
+        Guesswright house = Houses.ofNumbers(4);
         IT.is("11: 0 at first", 0, () -> house.setLies(0, 3));
         IT.is("11: 3 before", 3, () -> house.setLies(0, 1));
         for (int bad : new int[] {LOW, -1, 4, HIGH}) {
@@ -419,7 +371,7 @@ public final class PromiseTest {
     // ---- promise 12
 
     private static void things() {
-        Guesswright house = full();
+        Guesswright house = Houses.full();
         IT.is("12: the first game", 1, () -> house.things(0));
         IT.is("12: the last game", 8, () -> house.things(7));
         house.take(7, 4, 1);
@@ -432,7 +384,7 @@ public final class PromiseTest {
     // ---- promise 13
 
     private static void left() {
-        Guesswright house = ofNumbers(8);
+        Guesswright house = Houses.ofNumbers(8);
         IT.is("13: all", 8, () -> house.left(0));
         house.take(0, 6, 1);
         IT.is("13: two", 2, () -> house.left(0));
@@ -450,7 +402,7 @@ public final class PromiseTest {
     // ---- promise 14
 
     private static void leftAt() {
-        Guesswright house = ofNumbers(9);
+        Guesswright house = Houses.ofNumbers(9);
         house.take(0, 103, 2);
         IT.is("14: the first", 2, () -> house.leftAt(0, 0));
         IT.is("14: the second", 5, () -> house.leftAt(0, 1));
@@ -465,7 +417,7 @@ public final class PromiseTest {
     // ---- promise 15
 
     private static void told() {
-        Guesswright house = ofCoins(3, true);
+        Guesswright house = Houses.ofCoins(3, true);
         int[] due = {-1, 0, 1, 2, 3, 4, 5};
         for (int thing = 0; thing < due.length; thing++) {
             int at = thing;
@@ -496,7 +448,7 @@ public final class PromiseTest {
     // ---- promise 16
 
     private static void liesOf() {
-        Guesswright house = ofNumbers(4);
+        Guesswright house = Houses.ofNumbers(4);
         house.setLies(0, 1);
         IT.is("16: none", 0, () -> house.liesOf(0, 3));
         house.take(0, 2, 0);
@@ -517,7 +469,7 @@ public final class PromiseTest {
     // ---- promise 17
 
     private static void questions() {
-        Guesswright house = ofNumbers(1);
+        Guesswright house = Houses.ofNumbers(1);
         IT.is("17: of one number", 8, () -> house.questions(0));
         house.numbers(64);
         IT.is("17: of 64 numbers", 71, () -> house.questions(1));
@@ -542,7 +494,7 @@ public final class PromiseTest {
     // ---- promise 18
 
     private static void answerOfCodes() {
-        Guesswright house = ofCodes(4, 6, true);
+        Guesswright house = Houses.ofCodes(4, 6, true);
         int code0011 = 7;
         int code0012 = 8;
         int code0123 = 36 + 2 * 6 + 3;
@@ -559,7 +511,7 @@ public final class PromiseTest {
     }
 
     private static void answerOfCoins() {
-        Guesswright house = ofCoins(3, true);
+        Guesswright house = Houses.ofCoins(3, true);
         int firstLeftLastRight = 1 + 2 * 9;
         int[] due = {0, 1, 2, 0, 0, 2, 1};
         for (int thing = 0; thing < due.length; thing++) {
@@ -569,12 +521,12 @@ public final class PromiseTest {
         for (int bad : new int[] {LOW, -1, 0, 1, 2, 4, 8, 13, 26, 27, HIGH}) {
             IT.refuses("18: not a balance " + bad, Checks.ARGUMENT, house, () -> house.answer(0, 0, bad));
         }
-        Guesswright four = ofCoins(4, false);
+        Guesswright four = Houses.ofCoins(4, false);
         IT.is("18: two against two", 1, () -> four.answer(0, 2, 1 + 3 + 2 * 9 + 2 * 27));
     }
 
     private static void answerOfGrids() {
-        Guesswright house = ofFleets(4, 1, 21, true);
+        Guesswright house = Houses.ofFleets(4, 1, 21, true);
         int[][] due = {{2, 2, 1, 0}, {2, 2, 0, 1}, {1, 2, 2, 0}, {0, 2, 2, 1}, {1, 0, 2, 2}, {0, 1, 2, 2}};
         house.fleets(5, 5, 555, true);
         house.fleets(3, 1, 111, true);
@@ -600,7 +552,7 @@ public final class PromiseTest {
     }
 
     private static void answerRefused() {
-        Guesswright house = ofNumbers(5);
+        Guesswright house = Houses.ofNumbers(5);
         for (int bad : new int[] {LOW, -1, 0, 5, 100, 101, 110, HIGH}) {
             IT.refuses("18: no question " + bad, Checks.ARGUMENT, house, () -> house.answer(0, 0, bad));
             IT.refuses("18: nor thing, " + bad, Checks.INDEX, house, () -> house.answer(0, 5, bad));
@@ -624,7 +576,7 @@ public final class PromiseTest {
     // ---- promise 19
 
     private static void take() {
-        Guesswright house = ofNumbers(8);
+        Guesswright house = Houses.ofNumbers(8);
         IT.is("19: half", 4, () -> house.take(0, 4, 1));
         IT.is("19: a quarter", 2, () -> house.take(0, 102, 0));
         IT.refuses("19: nothing left", Checks.UNSUPPORTED, house, () -> house.take(0, 102, 1));
@@ -644,7 +596,7 @@ public final class PromiseTest {
     }
 
     private static void takeFull() {
-        Guesswright house = ofNumbers(4);
+        Guesswright house = Houses.ofNumbers(4);
         for (int taken = 1; taken <= 30; taken++) {
             IT.is("19: answer " + taken, 2, () -> house.take(0, 102, 1));
         }
@@ -663,7 +615,7 @@ public final class PromiseTest {
     // ---- promise 20
 
     private static void back() {
-        Guesswright house = ofNumbers(8);
+        Guesswright house = Houses.ofNumbers(8);
         IT.refuses("20: none taken", Checks.MISSING, house, () -> house.back(0));
         house.take(0, 4, 1);
         house.take(0, 6, 0);
@@ -681,7 +633,7 @@ public final class PromiseTest {
     // ---- promise 21
 
     private static void adverse() {
-        Guesswright house = ofNumbers(9);
+        Guesswright house = Houses.ofNumbers(9);
         IT.is("21: the greatest part", 1, () -> house.adverse(0, 4));
         IT.is("21: it was taken", 5, () -> house.left(0));
         house.back(0);
@@ -704,7 +656,7 @@ public final class PromiseTest {
     // ---- promise 22
 
     private static void draw() {
-        Guesswright house = ofNumbers(64);
+        Guesswright house = Houses.ofNumbers(64);
         IT.is("22: seed 0", 0, () -> house.draw(0, 0));
         IT.is("22: seed 1", (int) (1103527590L / 65536 % 64), () -> house.draw(0, 1));
         long last = (99999L * 1103515245L + 12345) % (1L << 31);
@@ -721,7 +673,7 @@ public final class PromiseTest {
     // ---- promise 23
 
     private static void weigh() {
-        Guesswright house = ofNumbers(10);
+        Guesswright house = Houses.ofNumbers(10);
         IT.is("23: worst", 4L, () -> house.weigh(0, 103, 'w'));
         IT.is("23: squares", 34L, () -> house.weigh(0, 103, 's'));
         IT.is("23: parts", 3L, () -> house.weigh(0, 103, 'p'));
@@ -752,7 +704,7 @@ public final class PromiseTest {
     // ---- promise 24
 
     private static void part() {
-        Guesswright house = ofNumbers(10);
+        Guesswright house = Houses.ofNumbers(10);
         IT.is("24: remainder 0", 4, () -> house.part(0, 103, 0));
         IT.is("24: remainder 2", 3, () -> house.part(0, 103, 2));
         for (int other : new int[] {LOW, -1, 3, 100, HIGH}) {
@@ -769,7 +721,7 @@ public final class PromiseTest {
     // ---- promise 25
 
     private static void best() {
-        Guesswright house = ofNumbers(2);
+        Guesswright house = Houses.ofNumbers(2);
         IT.is("25: the lowest one that splits", 1, () -> house.best(0, 'w'));
         house.numbers(1);
         IT.is("25: the lowest one", 102, () -> house.best(1, 'p'));
@@ -788,21 +740,21 @@ public final class PromiseTest {
     }
 
     private static void bestOfCodes() {
-        Guesswright house = ofCodes(4, 6, true);
+        Guesswright house = Houses.ofCodes(4, 6, true);
         IT.is("25: Knuth's first code, 0011", 7, () -> house.best(0, 'w'));
         IT.is("25: its worst part", 256L, () -> house.weigh(0, 7, 'w'));
         IT.is("25: 0012 in squares", 8, () -> house.best(0, 's'));
         IT.is("25: its squares", 240108L, () -> house.weigh(0, 8, 's'));
         IT.is("25: 0012 in parts", 8, () -> house.best(0, 'p'));
         IT.is("25: its parts", 14L, () -> house.weigh(0, 8, 'p'));
-        Guesswright few = ofCodes(1, 4, true);
+        Guesswright few = Houses.ofCodes(1, 4, true);
         few.take(0, 0, 0);
         IT.is("25: a code that is left goes ahead of lower ones", 1, () -> few.best(0, 'w'));
         few.take(0, 1, 0);
         IT.is("25: of two left the lower one", 2, () -> few.best(0, 's'));
         few.take(0, 2, 0);
         IT.is("25: the one that is left", 3, () -> few.best(0, 'p'));
-        Guesswright lies = ofCodes(1, 3, true);
+        Guesswright lies = Houses.ofCodes(1, 3, true);
         lies.setLies(0, 1);
         lies.take(0, 0, 0);
         IT.is("25: one lie leaves it", 0, () -> lies.best(0, 'w'));
@@ -813,8 +765,8 @@ public final class PromiseTest {
     // ---- promise 26
 
     private static void find() {
-        Guesswright house = ofCodes(4, 6, true);
-        IT.is("26: at once", 1, () -> ofCodes(1, 2, true).find(0, 1, 'w'));
+        Guesswright house = Houses.ofCodes(4, 6, true);
+        IT.is("26: at once", 1, () -> Houses.ofCodes(1, 2, true).find(0, 1, 'w'));
         // Knuth's way needs five at most, the last of which asks for what is known.
         int most = 0;
         for (int thing = 0; thing < 1296; thing += 5) {
@@ -822,7 +774,7 @@ public final class PromiseTest {
         }
         IT.holds("26: Knuth's way finds all by four", most == 4);
         IT.is("26: the game stays", 1296, () -> house.left(0));
-        Guesswright lone = ofLoneVertices(14);
+        Guesswright lone = Houses.ofLoneVertices(14);
         IT.is("26: the first goes first", 1, () -> lone.find(0, 0, 'w'));
         IT.is("26: one after another", 13, () -> lone.find(0, 13, 's'));
         IT.is("26: as long for the last but one", 13, () -> lone.find(0, 12, 'p'));
@@ -834,9 +786,9 @@ public final class PromiseTest {
             IT.refuses("26: thing " + bad, Checks.INDEX, lone, () -> lone.find(0, bad, 'x'));
             IT.refuses("26: game " + bad, Checks.INDEX, lone, () -> lone.find(bad, 5, 'x'));
         }
-        Guesswright alike = ofFleets(2, 2, 22, true);
+        Guesswright alike = Houses.ofFleets(2, 2, 22, true);
         IT.refuses("26: the best leaves all", Checks.UNSUPPORTED, alike, () -> alike.find(0, 0, 'w'));
-        Guesswright lies = ofNumbers(4);
+        Guesswright lies = Houses.ofNumbers(4);
         lies.setLies(0, 1);
         IT.refuses("26: lies", Checks.UNSUPPORTED, lies, () -> lies.find(0, 0, 's'));
         IT.refuses("26: lies, but no letter", Checks.ARGUMENT, lies, () -> lies.find(0, 0, 't'));
@@ -845,37 +797,37 @@ public final class PromiseTest {
     // ---- promise 27
 
     private static void depth() {
-        IT.is("27: one thing", 0, () -> ofNumbers(1).depth(0));
-        IT.is("27: two things", 1, () -> ofNumbers(2).depth(0));
-        IT.is("27: nine remainders", 1, () -> ofNumbers(9).depth(0));
-        IT.is("27: ten numbers", 2, () -> ofNumbers(10).depth(0));
-        IT.is("27: 14 numbers", 2, () -> ofNumbers(14).depth(0));
-        IT.is("27: 12 kinds of coins", 3, () -> ofCoins(6, false).depth(0));
-        IT.is("27: 13 kinds of coins", 3, () -> ofCoins(6, true).depth(0));
-        IT.is("27: 14 kinds of coins", 3, () -> ofCoins(7, false).depth(0));
-        IT.is("27: three coins", 2, () -> ofCoins(3, false).depth(0));
-        Guesswright house = ofNumbers(15);
+        IT.is("27: one thing", 0, () -> Houses.ofNumbers(1).depth(0));
+        IT.is("27: two things", 1, () -> Houses.ofNumbers(2).depth(0));
+        IT.is("27: nine remainders", 1, () -> Houses.ofNumbers(9).depth(0));
+        IT.is("27: ten numbers", 2, () -> Houses.ofNumbers(10).depth(0));
+        IT.is("27: 14 numbers", 2, () -> Houses.ofNumbers(14).depth(0));
+        IT.is("27: 12 kinds of coins", 3, () -> Houses.ofCoins(6, false).depth(0));
+        IT.is("27: 13 kinds of coins", 3, () -> Houses.ofCoins(6, true).depth(0));
+        IT.is("27: 14 kinds of coins", 3, () -> Houses.ofCoins(7, false).depth(0));
+        IT.is("27: three coins", 2, () -> Houses.ofCoins(3, false).depth(0));
+        Guesswright house = Houses.ofNumbers(15);
         IT.refuses("27: 15 are left", Checks.UNSUPPORTED, house, () -> house.depth(0));
         house.take(0, 1, 1);
         IT.is("27: 14 are left", 2, () -> house.depth(0));
-        Guesswright lies = ofNumbers(4);
+        Guesswright lies = Houses.ofNumbers(4);
         lies.setLies(0, 1);
         IT.refuses("27: lies", Checks.UNSUPPORTED, lies, () -> lies.depth(0));
         for (int bad : new int[] {LOW, -1, 1, HIGH}) {
             IT.refuses("27: game " + bad, Checks.INDEX, lies, () -> lies.depth(bad));
         }
-        Guesswright alike = ofFleets(2, 2, 22, true);
+        Guesswright alike = Houses.ofFleets(2, 2, 22, true);
         IT.refuses("27: not told apart", Checks.MISSING, alike, () -> alike.depth(0));
         alike.setLies(0, 2);
         IT.refuses("27: not told apart, but lies", Checks.UNSUPPORTED, alike, () -> alike.depth(0));
-        Guesswright twoCoins = ofCoins(2, false);
+        Guesswright twoCoins = Houses.ofCoins(2, false);
         IT.refuses("27: which coin of two", Checks.MISSING, twoCoins, () -> twoCoins.depth(0));
     }
 
     private static void depthOfGraphs() {
         for (int vertices = 1; vertices <= 14; vertices++) {
             int many = vertices;
-            IT.is("27: lone vertices " + vertices, vertices - 1, () -> ofLoneVertices(many).depth(0));
+            IT.is("27: lone vertices " + vertices, vertices - 1, () -> Houses.ofLoneVertices(many).depth(0));
         }
         Guesswright house = new Guesswright();
         house.vertices(14);
@@ -899,7 +851,7 @@ public final class PromiseTest {
     }
 
     private static void depthFarFromEven() {
-        Guesswright fleet = ofFleets(4, 4, 13, false);
+        Guesswright fleet = Houses.ofFleets(4, 4, 13, false);
         fleet.take(0, 9, 3);
         IT.is("27: 14 fleets are left", 14, () -> fleet.take(0, 0, 0));
         IT.is("27: of these", 5, () -> fleet.depth(0));
@@ -919,27 +871,27 @@ public final class PromiseTest {
     // ---- promise 28
 
     private static void leastSum() {
-        IT.is("28: one thing", 0, () -> ofNumbers(1).leastSum(0));
-        IT.is("28: two things", 2, () -> ofNumbers(2).leastSum(0));
-        IT.is("28: nine at once", 9, () -> ofNumbers(9).leastSum(0));
-        IT.is("28: ten, two of them twice", 12, () -> ofNumbers(10).leastSum(0));
+        IT.is("28: one thing", 0, () -> Houses.ofNumbers(1).leastSum(0));
+        IT.is("28: two things", 2, () -> Houses.ofNumbers(2).leastSum(0));
+        IT.is("28: nine at once", 9, () -> Houses.ofNumbers(9).leastSum(0));
+        IT.is("28: ten, two of them twice", 12, () -> Houses.ofNumbers(10).leastSum(0));
         for (int vertices = 1; vertices <= 10; vertices++) {
             int many = vertices;
             IT.is("28: lone vertices " + vertices, vertices * (vertices + 1) / 2 - 1,
-                    () -> ofLoneVertices(many).leastSum(0));
+                    () -> Houses.ofLoneVertices(many).leastSum(0));
         }
-        IT.is("28: codes of two places", 15, () -> ofCodes(2, 3, true).leastSum(0));
-        Guesswright house = ofNumbers(11);
+        IT.is("28: codes of two places", 15, () -> Houses.ofCodes(2, 3, true).leastSum(0));
+        Guesswright house = Houses.ofNumbers(11);
         IT.refuses("28: 11 are left", Checks.UNSUPPORTED, house, () -> house.leastSum(0));
         house.take(0, 1, 1);
         IT.is("28: 10 are left", 12, () -> house.leastSum(0));
-        Guesswright lies = ofNumbers(4);
+        Guesswright lies = Houses.ofNumbers(4);
         lies.setLies(0, 1);
         IT.refuses("28: lies", Checks.UNSUPPORTED, lies, () -> lies.leastSum(0));
         for (int bad : new int[] {LOW, -1, 1, HIGH}) {
             IT.refuses("28: game " + bad, Checks.INDEX, lies, () -> lies.leastSum(bad));
         }
-        Guesswright alike = ofFleets(2, 2, 22, true);
+        Guesswright alike = Houses.ofFleets(2, 2, 22, true);
         IT.refuses("28: not told apart", Checks.MISSING, alike, () -> alike.leastSum(0));
         alike.setLies(0, 2);
         IT.refuses("28: not told apart, but lies", Checks.UNSUPPORTED, alike, () -> alike.leastSum(0));
@@ -948,25 +900,25 @@ public final class PromiseTest {
     // ---- promise 29
 
     private static void atOnce() {
-        IT.is("29: one thing", 0, () -> ofNumbers(1).atOnce(0));
-        IT.is("29: one question", 1, () -> ofNumbers(9).atOnce(0));
-        IT.is("29: two questions", 2, () -> ofNumbers(12).atOnce(0));
-        IT.is("29: three balances for 12", 3, () -> ofCoins(6, false).atOnce(0));
-        IT.is("29: three lone vertices of four", 3, () -> ofLoneVertices(4).atOnce(0));
+        IT.is("29: one thing", 0, () -> Houses.ofNumbers(1).atOnce(0));
+        IT.is("29: one question", 1, () -> Houses.ofNumbers(9).atOnce(0));
+        IT.is("29: two questions", 2, () -> Houses.ofNumbers(12).atOnce(0));
+        IT.is("29: three balances for 12", 3, () -> Houses.ofCoins(6, false).atOnce(0));
+        IT.is("29: three lone vertices of four", 3, () -> Houses.ofLoneVertices(4).atOnce(0));
         IT.is("29: a path, and the last pair alone", 2, () -> ofPathBesideTwo(10, 11).atOnce(0));
         IT.is("29: a path, and the last pair but one", 2, () -> ofPathBesideTwo(9, 11).atOnce(0));
-        Guesswright five = ofLoneVertices(5);
+        Guesswright five = Houses.ofLoneVertices(5);
         IT.refuses("29: 3 are not enough", Checks.MISSING, five, () -> five.atOnce(0));
         five.setLies(0, 3);
         IT.refuses("29: 3 are not enough, but lies", Checks.UNSUPPORTED, five, () -> five.atOnce(0));
-        Guesswright thirteen = ofNumbers(13);
+        Guesswright thirteen = Houses.ofNumbers(13);
         IT.refuses("29: 13 are left", Checks.UNSUPPORTED, thirteen, () -> thirteen.atOnce(0));
         thirteen.take(0, 1, 1);
         IT.is("29: 12 are left", 2, () -> thirteen.atOnce(0));
-        Guesswright many = ofCodes(3, 6, true);
+        Guesswright many = Houses.ofCodes(3, 6, true);
         many.take(0, 0, 30);
         IT.refuses("29: 216 questions", Checks.UNSUPPORTED, many, () -> many.atOnce(0));
-        Guesswright alike = ofFleets(2, 2, 22, true);
+        Guesswright alike = Houses.ofFleets(2, 2, 22, true);
         IT.refuses("29: never told apart", Checks.MISSING, alike, () -> alike.atOnce(0));
         for (int bad : new int[] {LOW, -1, 1, HIGH}) {
             IT.refuses("29: game " + bad, Checks.INDEX, alike, () -> alike.atOnce(bad));
@@ -991,21 +943,21 @@ public final class PromiseTest {
     // ---- promise 30
 
     private static void proof() {
-        IT.is("30: alone", 0, () -> ofNumbers(1).proof(0, 0));
-        Guesswright house = ofNumbers(60);
+        IT.is("30: alone", 0, () -> Houses.ofNumbers(1).proof(0, 0));
+        Guesswright house = Houses.ofNumbers(60);
         IT.is("30: the lowest of 60", 1, () -> house.proof(0, 0));
         IT.is("30: one between", 2, () -> house.proof(0, 30));
         IT.is("30: the highest of 60", 1, () -> house.proof(0, 59));
-        IT.is("30: itself", 1, () -> ofLoneVertices(20).proof(0, 7));
-        Guesswright many = ofNumbers(61);
+        IT.is("30: itself", 1, () -> Houses.ofLoneVertices(20).proof(0, 7));
+        Guesswright many = Houses.ofNumbers(61);
         IT.refuses("30: 61 are left", Checks.UNSUPPORTED, many, () -> many.proof(0, 0));
         many.take(0, 1, 1);
         IT.is("30: 60 are left", 1, () -> many.proof(0, 1));
         IT.refuses("30: not left", Checks.UNSUPPORTED, many, () -> many.proof(0, 0));
-        Guesswright codes = ofCodes(3, 6, true);
+        Guesswright codes = Houses.ofCodes(3, 6, true);
         codes.take(0, 0, 30);
         IT.refuses("30: 216 questions", Checks.UNSUPPORTED, codes, () -> codes.proof(0, 0));
-        Guesswright alike = ofFleets(2, 2, 22, true);
+        Guesswright alike = Houses.ofFleets(2, 2, 22, true);
         IT.refuses("30: never alone", Checks.MISSING, alike, () -> alike.proof(0, 0));
         alike.setLies(0, 1);
         IT.refuses("30: never alone, but lies", Checks.UNSUPPORTED, alike, () -> alike.proof(0, 0));
@@ -1013,9 +965,9 @@ public final class PromiseTest {
             IT.refuses("30: thing " + bad, Checks.INDEX, alike, () -> alike.proof(0, bad));
             IT.refuses("30: game " + bad, Checks.INDEX, alike, () -> alike.proof(bad, 0));
         }
-        Guesswright coins = ofCoins(5, true);
+        Guesswright coins = Houses.ofCoins(5, true);
         IT.is("30: that all are alike", 2, () -> coins.proof(0, 0));
-        Guesswright mines = ofMines(5, 5, 2, false);
+        Guesswright mines = Houses.ofMines(5, 5, 2, false);
         mines.take(0, 12, 0);
         IT.refuses("30: more than 60", Checks.UNSUPPORTED, mines, () -> mines.proof(0, mines.leftAt(0, 0)));
     }
@@ -1023,7 +975,7 @@ public final class PromiseTest {
     // ---- promise 31
 
     private static void weight() {
-        Guesswright house = ofNumbers(4);
+        Guesswright house = Houses.ofNumbers(4);
         IT.is("31: without lies", 4L, () -> house.weight(0, 40));
         house.setLies(0, 3);
         IT.is("31: none to come", 4L, () -> house.weight(0, 0));
@@ -1040,7 +992,7 @@ public final class PromiseTest {
     // ---- promise 32
 
     private static void at() {
-        Guesswright house = ofFleets(3, 3, 2, true);
+        Guesswright house = Houses.ofFleets(3, 3, 2, true);
         int[] due = {2, 3, 2, 3, 4, 3, 2, 3, 2};
         for (int cell = 0; cell < 9; cell++) {
             int asked = cell;
@@ -1068,7 +1020,7 @@ public final class PromiseTest {
     // ---- promise 33
 
     private static void sure() {
-        Guesswright house = ofFleets(5, 5, 5, true);
+        Guesswright house = Houses.ofFleets(5, 5, 5, true);
         IT.is("33: nothing is sure", 0, () -> house.sure(0, false));
         house.take(0, 6, 5);
         IT.is("33: the cell is sure", 1 << 6, () -> house.sure(0, true));
@@ -1092,7 +1044,7 @@ public final class PromiseTest {
     // ---- promise 34
 
     private static void isClear() {
-        Guesswright row = ofMines(3, 1, 1, false);
+        Guesswright row = Houses.ofMines(3, 1, 1, false);
         IT.is("34: a mine at the end, from the other one", true, () -> row.isClear(0, 2, 0));
         IT.is("34: a mine at the end, from the middle", false, () -> row.isClear(0, 2, 1));
         IT.is("34: a mine in the middle, from the end", true, () -> row.isClear(0, 1, 0));
@@ -1101,7 +1053,7 @@ public final class PromiseTest {
         IT.refuses("34: not left", Checks.UNSUPPORTED, row, () -> row.isClear(0, 0, 1));
         IT.refuses("34: a mine there", Checks.ARGUMENT, row, () -> row.isClear(0, 2, 2));
         IT.is("34: the game stays", 1, () -> row.left(0));
-        Guesswright house = ofMines(5, 5, 0, false);
+        Guesswright house = Houses.ofMines(5, 5, 0, false);
         IT.is("34: no mines", true, () -> house.isClear(0, 0, 24));
         house.mines(5, 5, 1, false);
         IT.is("34: afar all is told", true, () -> house.isClear(1, 24, 0));
@@ -1130,7 +1082,7 @@ public final class PromiseTest {
     // ---- promise 35
 
     private static void bits() {
-        Guesswright house = ofNumbers(64);
+        Guesswright house = Houses.ofNumbers(64);
         IT.is("35: none", 0, () -> house.bits(0));
         house.take(0, 33, 0);
         IT.is("35: 33 of 64", 0, () -> house.bits(0));
@@ -1178,7 +1130,7 @@ public final class PromiseTest {
     // ---- promise 37
 
     private static void leftShare() {
-        Guesswright house = ofNumbers(3);
+        Guesswright house = Houses.ofNumbers(3);
         IT.is("37: all", 1.0f, () -> house.leftShare(0));
         house.take(0, 1, 1);
         IT.is("37: two of three", 2f / 3f, () -> house.leftShare(0));
@@ -1192,7 +1144,7 @@ public final class PromiseTest {
     // ---- promise 38
 
     private static void meanLeft() {
-        Guesswright house = ofNumbers(10);
+        Guesswright house = Houses.ofNumbers(10);
         IT.is("38: thirds", 3.4, () -> house.meanLeft(0, 103));
         house.take(0, 3, 1);
         IT.is("38: of seven", 17.0 / 7.0, () -> house.meanLeft(0, 103));
