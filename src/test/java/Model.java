@@ -102,6 +102,15 @@ final class Model {
         return new UnsupportedOperationException();
     }
 
+    int games() {
+        return plays.size();
+    }
+
+    /** Empty, if there is no such game. */
+    List<Integer> questionsOf(int game) {
+        return game >= 0 && game < plays.size() ? plays.get(game).questions : List.of();
+    }
+
     private int add(Play play) {
         demand(plays.size() < 8, new IllegalStateException());
         plays.add(play);

@@ -1,20 +1,23 @@
+import java.util.List;
 import java.util.Random;
 
-/** Runs of calls by chance, each answer held against that of the slow model. */
+/** Runs of calls by chance, each as long as the document speaks of, and each answer held against the slow model's. */
 public final class ModelTest {
     private static final Checks CHECKS = new Checks();
-    private static final int CALLS = 500;
+    private static final int RUNS = 800;
+    private static final int CALLS = 512;
 
     private final Random random;
     private final Guesswright house = new Guesswright();
     private final Model model = new Model();
+    private int calls = 0;
 
     private ModelTest(int seed) {
         random = new Random(seed);
     }
 
     public static void main(String[] arguments) {
-        int runs = arguments.length > 1 ? Integer.parseInt(arguments[1]) : 150;
+        int runs = arguments.length > 1 ? Integer.parseInt(arguments[1]) : RUNS;
         for (int seed = 0; seed < runs; seed++) {
             new ModelTest(seed).play(seed);
         }
@@ -22,9 +25,9 @@ public final class ModelTest {
     }
 
     private void play(int seed) {
-        int style = seed % 3;
-        for (int call = 0; call < CALLS; call++) {
-            step("run " + seed + ", call " + call + ": ", style);
+        int style = seed % 4;
+        while (calls < CALLS) {
+            step("run " + seed + ", call " + calls + ": ", style);
         }
     }
 
@@ -50,13 +53,13 @@ public final class ModelTest {
     }
 
     private int game() {
-        return mostly(0, Math.max(0, Checks.gamesOf(house) - 1));
+        return mostly(0, Math.max(0, model.games() - 1));
     }
 
     private int thing(int game) {
-        int things = count(() -> house.things(game));
-        int left = count(() -> house.left(game));
-        return upTo(4) > 0 && left > 0 ? house.leftAt(game, upTo(left)) : mostly(0, Math.max(0, things - 1));
+        int things = count(() -> model.things(game));
+        int left = count(() -> model.left(game));
+        return upTo(4) > 0 && left > 0 ? model.leftAt(game, upTo(left)) : mostly(0, Math.max(0, things - 1));
     }
 
     private static int count(Checks.Call call) {
@@ -67,33 +70,21 @@ public final class ModelTest {
         }
     }
 
-    /** Questions are guessed by the number of things, which tells the kinds of games well enough. */
     private int question(int game) {
-        int questions = count(() -> house.questions(game));
-        for (int attempt = 0; attempt < 60; attempt++) {
-            int question = upTo(3) == 0 ? 100 + upTo(12) : upTo(Math.max(2, questions * (upTo(5) + 1)));
-            if (upTo(50) == 0 || isQuestion(game, question)) {
-                return question;
-            }
-        }
-        return mostly(0, 1300);
-    }
-
-    private boolean isQuestion(int game, int question) {
-        try {
-            house.part(game, question, 0);
-            return true;
-        } catch (RuntimeException none) {
-            return false;
-        }
+        List<Integer> questions = model.questionsOf(game);
+        return questions.isEmpty() || upTo(30) == 0 ? mostly(0, 1300) : questions.get(upTo(questions.size()));
     }
 
     private int answer(int game, int question) {
         int thing = thing(game);
-        return upTo(8) == 0 ? upTo(45) - 1 : count(() -> house.answer(game, thing, question));
+        return upTo(8) == 0 ? upTo(45) - 1 : count(() -> model.answer(game, thing, question));
     }
 
     private void same(String what, Checks.Call ofModel, Checks.Call ofHouse) {
+        if (calls >= CALLS) {
+            return;
+        }
+        calls++;
         Object due;
         try {
             due = ofModel.answer();
@@ -103,8 +94,9 @@ public final class ModelTest {
         CHECKS.is(what, due, ofHouse);
     }
 
+    /** In the last style small games are made, changed and taken away far more often than asked. */
     private void step(String run, int style) {
-        int kind = upTo(100);
+        int kind = upTo(style == 3 && upTo(4) > 0 ? 50 : 100);
         if (kind < 14) {
             make(run, style);
         } else if (kind < 44) {
@@ -120,19 +112,19 @@ public final class ModelTest {
 
     private void make(String run, int style) {
         int which = upTo(12);
-        int a = mostly(1, style == 0 ? 3 : 4);
-        int b = mostly(1, style == 0 ? 3 : 5);
-        int c = mostly(1, style == 0 ? 3 : 5);
+        int a = mostly(1, style % 3 == 0 ? 3 : 4);
+        int b = mostly(1, style % 3 == 0 ? 3 : 5);
+        int c = mostly(1, style % 3 == 0 ? 3 : 5);
         boolean is = random.nextBoolean();
         if (which < 2) {
-            int colours = mostly(1, style == 0 ? 3 : 6);
+            int colours = mostly(1, style % 3 == 0 ? 3 : 6);
             same(run + "codes " + a + " " + colours + " " + is, () -> model.codes(a, colours, is),
                     () -> house.codes(a, colours, is));
         } else if (which == 2) {
-            int many = mostly(1, style == 0 ? 14 : 64);
+            int many = mostly(1, style % 3 == 0 ? 14 : 64);
             same(run + "numbers " + many, () -> model.numbers(many), () -> house.numbers(many));
         } else if (which == 3) {
-            int coins = mostly(2, style == 0 ? 4 : 7);
+            int coins = mostly(2, style % 3 == 0 ? 4 : 7);
             same(run + "coins " + coins + " " + is, () -> model.coins(coins, is), () -> house.coins(coins, is));
         } else if (which < 6) {
             int ships = mostly(1, upTo(2) == 0 ? 5 : 60) + (upTo(4) == 0 ? 100 * (1 + upTo(5)) : 0);
@@ -145,17 +137,17 @@ public final class ModelTest {
         } else if (which < 10) {
             graph(run, style);
         } else if (which == 10) {
-            int game = game();
+            int game = model.games() - 1 - upTo(3);
             int lies = mostly(0, 3);
             same(run + "setLies " + game + " " + lies, () -> model.setLies(game, lies),
                     () -> house.setLies(game, lies));
-        } else if (Checks.gamesOf(house) > 5) {
+        } else if (model.games() > 5 || style == 3) {
             same(run + "clear", model::clear, house::clear);
         }
     }
 
     private void graph(String run, int style) {
-        int most = style == 0 ? 10 : 20;
+        int most = style % 3 == 0 ? 10 : 20;
         int vertices = mostly(1, most);
         if (upTo(2) == 0) {
             same(run + "vertices " + vertices, () -> model.vertices(vertices), () -> house.vertices(vertices));
@@ -205,7 +197,7 @@ public final class ModelTest {
     private void searches(String run) {
         int game = game();
         int thing = thing(game);
-        boolean isBig = count(() -> house.things(game)) > 300 && count(() -> house.left(game)) > 40;
+        boolean isBig = count(() -> model.things(game)) > 300 && count(() -> model.left(game)) > 40;
         char what = letter();
         int question = question(game);
         same(run + "weigh " + game + " " + question + " " + what, () -> model.weigh(game, question, what),
@@ -227,7 +219,7 @@ public final class ModelTest {
         int game = game();
         int thing = thing(game);
         int question = question(game);
-        int cell = mostly(0, Math.max(0, count(() -> house.questions(game)) - 1));
+        int cell = mostly(0, Math.max(0, model.questionsOf(game).size() - 1));
         int number = mostly(0, 40);
         boolean is = random.nextBoolean();
         same(run + "part " + game + " " + question + " " + number, () -> model.part(game, question, number),
